@@ -156,6 +156,9 @@ public final class PromiseTest {
             refused("weight " + bad, ARGUMENT, () -> x.edge(1, 2, bad));
         }
         due("after refusals", x.edge(2, 1, 0), 1);
+        Submodulary six = fresh(6);
+        due("the last two", six.edge(4, 5, 9), 0);
+        due("the last two, the other way", six.edge(5, 4, 0), 9);
     }
 
     private static void colour() {
@@ -175,6 +178,10 @@ public final class PromiseTest {
             refused("colour " + bad, OUTSIDE, () -> x.colour(0, 0, bad));
         }
         due("after refusals", x.colour(0, 0, 0), 2);
+        Submodulary six = fresh(6);
+        due("the last element", six.colour(1, 5, 3), 0);
+        due("the last element's one before", six.colour(1, 5, 0), 3);
+        due("the last of the first family", six.colour(0, 5, 0), 0);
     }
 
     private static void room() {
@@ -369,6 +376,7 @@ public final class PromiseTest {
         }
         due("of a sum", kinds.isLawful(kinds.sum(0, 1)), true);
         due("of a contracted one", kinds.isLawful(kinds.contract(1, 5)), true);
+        due("with fewer elements than before", shrunk().isLawful(0), true);
         lawBrokenAbove();
     }
 
@@ -394,6 +402,9 @@ public final class PromiseTest {
         due("of one that lessens by the last", weighed(1, 1, 1, 1, 1, -1).rises(0), false);
         due("of one that lessens", weighed(-1).rises(0), false);
         due("of nothing", weighed(0).rises(0), true);
+        Submodulary fewer = shrunk();
+        fewer.weigh(1, 0);
+        due("with fewer elements than before", fewer.rises(fewer.make(Submodulary.WEIGHTS)), true);
     }
 
     private static void least() {
@@ -401,6 +412,8 @@ public final class PromiseTest {
         due("of weights", weighed(-3, 4, -20, 0, 1, -1).least(0), -24);
         due("of weights above nothing", weighed(3, 4).least(0), 0);
         due("with two together alone", together().least(2), -2);
+        due("without the first pair", pairs(-1, 2, -3, -3).least(2), -6);
+        due("with fewer elements than before", shrunk().least(0), -1);
         Submodulary x = lawless();
         due("of the lawful one", x.least(0), -5);
         refused("of the lawless one", STATE, () -> x.least(1));
@@ -432,6 +445,10 @@ public final class PromiseTest {
             leastIs(isAnew, together(), 2, 3, 3);
             leastIs(isAnew, together(), 0, 0, 7);
             leastIs(isAnew, splitTwice(), 2, 0, 15);
+            leastIs(isAnew, pairs(-1, 2, -3, -3), 2, 12, 12);
+            leastIs(isAnew, pairs(5, -5, 1, 1), 2, 0, 3);
+            leastIs(isAnew, pairs(-5, 5, 1, 1), 2, 0, 3);
+            leastIs(isAnew, shrunk(), 0, 2, 2);
             Submodulary x = lawless();
             for (boolean isGreatest : new boolean[] {false, true}) {
                 refused("of the lawless one", STATE, () -> leastSet(isAnew, x, 1, isGreatest));
@@ -444,16 +461,26 @@ public final class PromiseTest {
 
     /** Two pairs, each with nothing or all of it least. */
     private static Submodulary splitTwice() {
-        Submodulary x = new Submodulary();
+        return pairs(-2, 2, 3, -3);
+    }
+
+    /** Weights of two pairs, each held together by an edge of 5. */
+    private static Submodulary pairs(int... weights) {
+        Submodulary x = weighed(weights);
         x.edge(0, 1, 5);
         x.edge(2, 3, 5);
-        x.weigh(0, -2);
-        x.weigh(1, 2);
-        x.weigh(2, 3);
-        x.weigh(3, -3);
         x.make(Submodulary.CUT);
-        x.make(Submodulary.WEIGHTS);
         x.sum(0, 1);
+        return x;
+    }
+
+    /** A function of two elements on an object that had one of six, with great and with small values. */
+    private static Submodulary shrunk() {
+        Submodulary x = weighed(3, -20, 20, -20, -20, 20);
+        x.elements(2);
+        x.weigh(0, 1);
+        x.weigh(1, -1);
+        x.make(Submodulary.WEIGHTS);
         return x;
     }
 
@@ -553,6 +580,7 @@ public final class PromiseTest {
         due("of less than nothing", weighed(-1, -2).best(0, 2), 0);
         due("of all", weighed(1, 2, 3, 4, 5, 6).best(0, 6), 21);
         due("of five", weighed(1, 2, 3, 4, 5, 6).best(0, 5), 20);
+        due("with fewer elements than before", shrunk().best(0, 6), 1);
         for (int bad : new int[] {-1, 1, FAR[0], FAR[1]}) {
             refused("function " + bad, OUTSIDE, () -> x.best(bad, 7));
         }
@@ -576,6 +604,9 @@ public final class PromiseTest {
             due("with room in both", common(isAnew, x), 3);
             x.room(1, 0, 0);
             due("without room", common(isAnew, x), 0);
+            Submodulary other = new Submodulary();
+            other.room(1, 0, 6);
+            due("with room in the other family alone", common(isAnew, other), 1);
             due("with a path through another", common(isAnew, pushed()), 2);
             due("with a long path", common(isAnew, chain()), 3);
             Submodulary y = fresh(6);
@@ -622,6 +653,7 @@ public final class PromiseTest {
             due("of one covered in part", share(isAnew, y, 0, 0), 2 * 4 + 2 + 2 + 2 * 0);
             due("of another", share(isAnew, y, 0, 1), 2 * 3 + 1 + 3 + 2 * 1);
             due("of a lawless one", share(isAnew, lawless(), 1, 0), -5 + 0);
+            due("with fewer elements than before", share(isAnew, shrunk(), 0, 0), 2);
             for (int bad : new int[] {-1, 1, FAR[0], FAR[1]}) {
                 refused("function " + bad, OUTSIDE, () -> share(isAnew, x, bad, 0));
             }
