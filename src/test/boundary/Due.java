@@ -194,6 +194,27 @@ final class Due {
         return x;
     }
 
+    /** Three elements as many as before, when there were functions 0 to 3, the last without the law; 2 and 0 in order. */
+    static Submodulary over() {
+        Submodulary x = told();
+        x.elements(3);
+        x.order(2);
+        x.order(0);
+        return x;
+    }
+
+    /** Six elements; function 2 has these weights, and the functions on both sides of it have no law and fall far. */
+    static Submodulary between(int... weights) {
+        Submodulary x = weighed(-20, -20, -20, -20, -20, 20);
+        x.cap(0, 0);
+        for (int element = 0; element < 6; element++) {
+            x.weigh(element, weights[element]);
+        }
+        x.make(Submodulary.WEIGHTS);
+        x.cap(0, 0);
+        return x;
+    }
+
     // ---- what can be read
 
     /** All that can be read of up to four elements and sets of three; the object is of no use afterwards. */

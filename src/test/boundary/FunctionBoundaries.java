@@ -47,6 +47,13 @@ final class FunctionBoundaries {
         }
     }
 
+    @Sentence(promise = 8, says = "Functions are numbered from 0, at most 8")
+    static void makeLeavesTheOthers() {
+        Submodulary x = Due.between(1, 2, 3, 4, 5, 6);
+        Due.due("make(Submodulary.WEIGHTS)", x.make(Submodulary.WEIGHTS), 4);
+        theFirstAreAsBefore(x);
+    }
+
     @Sentence(promise = 8, says = "Throws `IllegalStateException` if there are 8")
     static void makeNinthRefused() {
         for (int kind = 0; kind < 5; kind++) {
@@ -265,6 +272,17 @@ final class FunctionBoundaries {
         }
     }
 
+    /** The functions that stand between one another, of six elements, have their first and their last values. */
+    private static void theFirstAreAsBefore(Submodulary x) {
+        int[] ofTheFirst = {-20, -20, 1, -20};
+        int[] ofAll = {-80, -80, 21, -80};
+        for (int function = 0; function < 4; function++) {
+            Due.due("value(" + function + ", 0)", x.value(function, 0), 0);
+            Due.due("value(" + function + ", 1)", x.value(function, 1), ofTheFirst[function]);
+            Due.due("value(" + function + ", 63)", x.value(function, 63), ofAll[function]);
+        }
+    }
+
     // ---- promise 9: sum
 
     @Sentence(promise = 9, says = "Makes the sum of two functions, perhaps the same.")
@@ -324,9 +342,22 @@ final class FunctionBoundaries {
         Due.farRefused(Due.OUTSIDE, 0, 3, (x, far) -> x.sum(0, far));
     }
 
+    @Sentence(promise = 9, says = "to tell their number, also the same one, makes all functions over")
+    static void sumOfFunctionsThatWereRefused() {
+        Due.refused(Due::over, Due.OUTSIDE, x -> x.sum(0, 0));
+        Due.refused(Due::over, Due.OUTSIDE, x -> x.sum(3, 3));
+    }
+
     @Sentence(promise = 9, says = "Throws `IndexOutOfBoundsException` as told, of both")
     static void sumWithoutFunctionsRefused() {
         Due.refused(Due::bare, Due.OUTSIDE, x -> x.sum(0, 0));
+    }
+
+    @Sentence(promise = 9, says = "Functions are numbered from 0, at most 8")
+    static void sumLeavesTheOthers() {
+        Submodulary x = Due.between(1, 2, 3, 4, 5, 6);
+        Due.due("sum(0, 2)", x.sum(0, 2), 4);
+        theFirstAreAsBefore(x);
     }
 
     @Sentence(promise = 9, says = "Throws `IllegalStateException` if there are 8")
@@ -414,9 +445,22 @@ final class FunctionBoundaries {
         Due.refused(Due::bare, Due.OUTSIDE, x -> x.contract(0, 0));
     }
 
+    @Sentence(promise = 10, says = "to tell their number, also the same one, makes all functions over")
+    static void contractOfFunctionsThatWereRefused() {
+        Due.refused(Due::over, Due.OUTSIDE, x -> x.contract(0, 0));
+        Due.refused(Due::over, Due.OUTSIDE, x -> x.contract(3, 0));
+    }
+
     @Sentence(promise = 10, says = "Throws `IndexOutOfBoundsException` as told")
     static void contractFunctionFarRefused() {
         Due.farRefused(Due.OUTSIDE, 0, 3, (x, far) -> x.contract(far, 0));
+    }
+
+    @Sentence(promise = 10, says = "Functions are numbered from 0, at most 8")
+    static void contractLeavesTheOthers() {
+        Submodulary x = Due.between(1, 2, 3, 4, 5, 6);
+        Due.due("contract(2, 63)", x.contract(2, 63), 4);
+        theFirstAreAsBefore(x);
     }
 
     @Sentence(promise = 10, says = "Throws `IllegalStateException` if there are 8")
@@ -501,9 +545,22 @@ final class FunctionBoundaries {
         Due.refused(Due::bare, Due.OUTSIDE, x -> x.cap(0, 0));
     }
 
+    @Sentence(promise = 11, says = "to tell their number, also the same one, makes all functions over")
+    static void capOfFunctionsThatWereRefused() {
+        Due.refused(Due::over, Due.OUTSIDE, x -> x.cap(0, 0));
+        Due.refused(Due::over, Due.OUTSIDE, x -> x.cap(3, 0));
+    }
+
     @Sentence(promise = 11, says = "Throws `IndexOutOfBoundsException` as told")
     static void capFunctionFarRefused() {
         Due.farRefused(Due.OUTSIDE, 0, 3, (x, far) -> x.cap(far, 0));
+    }
+
+    @Sentence(promise = 11, says = "Functions are numbered from 0, at most 8")
+    static void capLeavesTheOthers() {
+        Submodulary x = Due.between(1, 2, 3, 4, 5, 6);
+        Due.due("cap(2, 10)", x.cap(2, 10), 4);
+        theFirstAreAsBefore(x);
     }
 
     @Sentence(promise = 11, says = "Throws `IllegalStateException` if there are 8")
@@ -592,6 +649,12 @@ final class FunctionBoundaries {
         Due.refused(Due::full, Due.OUTSIDE, x -> x.value(8, 0));
     }
 
+    @Sentence(promise = 12, says = "to tell their number, also the same one, makes all functions over")
+    static void valueOfFunctionsThatWereRefused() {
+        Due.refused(Due::over, Due.OUTSIDE, x -> x.value(0, 0));
+        Due.refused(Due::over, Due.OUTSIDE, x -> x.value(3, 0));
+    }
+
     @Sentence(promise = 12, says = "Throws `IndexOutOfBoundsException` as told")
     static void valueFunctionFarRefused() {
         Due.farRefused(Due.OUTSIDE, 0, 3, (x, far) -> x.value(far, 0));
@@ -601,6 +664,18 @@ final class FunctionBoundaries {
     static void valueOfTheLastFunction() {
         Due.values(Due.told(), 3, 0, -20, 1, 0, 1, -17, 1, 1);
         Due.values(Due.full(), 7, 0, 0, 4, 4, -13, -13, -23, -23);
+    }
+
+    @Sentence(promise = 12, says = "Functions are numbered from 0, at most 8")
+    static void valueOfEachForItself() {
+        Submodulary x = Due.between(1, 2, 3, 4, 5, 6);
+        int[] ofTheLast = {20, 0, 6, 0};
+        int[] ofAll = {-80, -80, 21, -80};
+        for (int function = 0; function < 4; function++) {
+            Due.due("value(" + function + ", 0)", x.value(function, 0), 0);
+            Due.due("value(" + function + ", 32)", x.value(function, 32), ofTheLast[function]);
+            Due.due("value(" + function + ", 63)", x.value(function, 63), ofAll[function]);
+        }
     }
 
     @Sentence(promise = 12, says = "If several apply, the one that is named first in the throws clause is thrown")
@@ -693,6 +768,15 @@ final class FunctionBoundaries {
         Due.due("where six broke the law", x.isLawful(3), true);
     }
 
+    @Sentence(promise = 13, says = "Functions are numbered from 0, at most 8")
+    static void isLawfulOfEachForItself() {
+        Submodulary x = Due.between(1, 2, 3, 4, 5, 6);
+        boolean[] want = {true, false, true, false};
+        for (int function = 0; function < 4; function++) {
+            Due.due("isLawful(" + function + ")", x.isLawful(function), want[function]);
+        }
+    }
+
     @Sentence(promise = 13, says = "Throws `IndexOutOfBoundsException` as told")
     static void isLawfulFunctionBelowFirstRefused() {
         Due.refused(Due.OUTSIDE, x -> Due.one(x.isLawful(-1)));
@@ -703,6 +787,12 @@ final class FunctionBoundaries {
         Due.refused(Due.OUTSIDE, x -> Due.one(x.isLawful(4)));
         Due.refused(Due::bare, Due.OUTSIDE, x -> Due.one(x.isLawful(0)));
         Due.refused(Due::full, Due.OUTSIDE, x -> Due.one(x.isLawful(8)));
+    }
+
+    @Sentence(promise = 13, says = "to tell their number, also the same one, makes all functions over")
+    static void isLawfulOfFunctionsThatWereRefused() {
+        Due.refused(Due::over, Due.OUTSIDE, x -> Due.one(x.isLawful(0)));
+        Due.refused(Due::over, Due.OUTSIDE, x -> Due.one(x.isLawful(3)));
     }
 
     @Sentence(promise = 13, says = "Throws `IndexOutOfBoundsException` as told")
@@ -784,6 +874,15 @@ final class FunctionBoundaries {
         Due.due("where six were less", x.rises(0), true);
     }
 
+    @Sentence(promise = 14, says = "Functions are numbered from 0, at most 8")
+    static void risesOfEachForItself() {
+        Submodulary x = Due.between(1, 2, 3, 4, 5, 6);
+        boolean[] want = {false, false, true, false};
+        for (int function = 0; function < 4; function++) {
+            Due.due("rises(" + function + ")", x.rises(function), want[function]);
+        }
+    }
+
     @Sentence(promise = 14, says = "Throws `IndexOutOfBoundsException` as told")
     static void risesFunctionBelowFirstRefused() {
         Due.refused(Due.OUTSIDE, x -> Due.one(x.rises(-1)));
@@ -794,6 +893,12 @@ final class FunctionBoundaries {
         Due.refused(Due.OUTSIDE, x -> Due.one(x.rises(4)));
         Due.refused(Due::bare, Due.OUTSIDE, x -> Due.one(x.rises(0)));
         Due.refused(Due::full, Due.OUTSIDE, x -> Due.one(x.rises(8)));
+    }
+
+    @Sentence(promise = 14, says = "to tell their number, also the same one, makes all functions over")
+    static void risesOfFunctionsThatWereRefused() {
+        Due.refused(Due::over, Due.OUTSIDE, x -> Due.one(x.rises(0)));
+        Due.refused(Due::over, Due.OUTSIDE, x -> Due.one(x.rises(3)));
     }
 
     @Sentence(promise = 14, says = "Throws `IndexOutOfBoundsException` as told")

@@ -81,6 +81,12 @@ final class GreedBoundaries {
         Due.refused(Due::full, Due.OUTSIDE, x -> x.greedy(8, 1));
     }
 
+    @Sentence(promise = 20, says = "to tell their number, also the same one, makes all functions over")
+    static void greedyOfFunctionsThatWereRefused() {
+        Due.refused(Due::over, Due.OUTSIDE, x -> x.greedy(0, 1));
+        Due.refused(Due::over, Due.OUTSIDE, x -> x.greedy(3, 1));
+    }
+
     @Sentence(promise = 20, says = "Throws `IndexOutOfBoundsException` as told")
     static void greedyFunctionFarRefused() {
         Due.farRefused(Due.OUTSIDE, 0, 3, (x, far) -> x.greedy(far, 1));
@@ -115,13 +121,20 @@ final class GreedBoundaries {
     }
 
     @Sentence(promise = 20, says = "as long as it becomes greater by that")
-    static void greedyStopsThoughMoreWouldAdd() {
-        Submodulary x = Due.weighed(-1, -1, 3);
-        x.edge(0, 1, 1);
-        x.make(Submodulary.CUT);
-        x.contract(1, 1);
-        x.sum(0, 2);
-        Due.due("where two in one step would add nothing", x.greedy(3, 6), 4);
+    static void greedyStopsThoughTwoStepsWouldAdd() {
+        Due.values(addingTogetherAlone(), 3, 0, 0, 0, 10);
+        Due.due("greedy(3, 6)", addingTogetherAlone().greedy(3, 6), 0);
+    }
+
+    /** Function 3 has nothing of each of two elements alone, and 10 of both together. */
+    private static Submodulary addingTogetherAlone() {
+        Submodulary x = Due.weighed(10, -10);
+        x.cap(0, 0);
+        x.weigh(0, 0);
+        x.weigh(1, 10);
+        x.make(Submodulary.WEIGHTS);
+        x.sum(1, 2);
+        return x;
     }
 
     @Sentence(promise = 20, says = "of alike ones the lowest")
@@ -139,6 +152,15 @@ final class GreedBoundaries {
     static void greedyIsMisled() {
         Due.due("the first alone", misleading().greedy(0, 1), 1);
         Due.due("the first and another", misleading().greedy(0, 2), 3);
+    }
+
+    @Sentence(promise = 20, says = "Functions are numbered from 0, at most 8")
+    static void greedyOfEachForItself() {
+        Submodulary x = Due.between(1, -2, 3, -4, 5, -6);
+        int[] want = {32, 0, 21, 0};
+        for (int function = 0; function < 4; function++) {
+            Due.due("greedy(" + function + ", 6)", x.greedy(function, 6), want[function]);
+        }
     }
 
     // ---- promise 21: best
@@ -173,6 +195,8 @@ final class GreedBoundaries {
     static void bestWhereGreedIsMisled() {
         Due.due("best(0, 1)", misleading().best(0, 1), 4);
         Due.due("best(0, 2)", misleading().best(0, 2), 6);
+        Due.due("best(3, 1)", addingTogetherAlone().best(3, 1), 0);
+        Due.due("best(3, 2)", addingTogetherAlone().best(3, 2), 10);
     }
 
     @Sentence(promise = 21, says = "`many`: 0 to 6")
@@ -208,6 +232,12 @@ final class GreedBoundaries {
         Due.refused(Due::full, Due.OUTSIDE, x -> x.best(8, 1));
     }
 
+    @Sentence(promise = 21, says = "to tell their number, also the same one, makes all functions over")
+    static void bestOfFunctionsThatWereRefused() {
+        Due.refused(Due::over, Due.OUTSIDE, x -> x.best(0, 1));
+        Due.refused(Due::over, Due.OUTSIDE, x -> x.best(3, 1));
+    }
+
     @Sentence(promise = 21, says = "Throws `IndexOutOfBoundsException` as told")
     static void bestFunctionFarRefused() {
         Due.farRefused(Due.OUTSIDE, 0, 3, (x, far) -> x.best(far, 1));
@@ -222,6 +252,15 @@ final class GreedBoundaries {
     static void bestOutsideAheadOfMany() {
         Due.refused(Due.OUTSIDE, x -> x.best(4, 7));
         Due.refused(Due.OUTSIDE, x -> x.best(-1, -1));
+    }
+
+    @Sentence(promise = 21, says = "Functions are numbered from 0, at most 8")
+    static void bestOfEachForItself() {
+        Submodulary x = Due.between(1, -2, 3, -4, 5, -6);
+        int[] want = {20, 0, 9, 0};
+        for (int function = 0; function < 4; function++) {
+            Due.due("best(" + function + ", 6)", x.best(function, 6), want[function]);
+        }
     }
 
     // ---- promises 22 and 23: common, commonAnew
@@ -335,6 +374,7 @@ final class GreedBoundaries {
     }
 
     private static void ofAllColoursOfFour(boolean isAnew) {
+        int[][] rooms = {{1, 1, 1}, {1, 1, 1}};
         for (int kinds = 0; kinds < 81 * 81; kinds++) {
             int[] first = new int[4];
             int[] second = new int[4];
@@ -344,26 +384,65 @@ final class GreedBoundaries {
                 second[element] = rest / 3 % 3;
                 rest /= 9;
             }
-            commonIs(isAnew, coloured(first, second), greatestOfApart(first, second));
+            commonIs(isAnew, coloured(first, second), greatestCommon(new int[][] {first, second}, rooms));
         }
     }
 
-    /** How many elements can be taken with no colour twice in either family. */
-    private static int greatestOfApart(int[] first, int[] second) {
-        int greatest = 0;
-        for (int set = 0; set < 1 << first.length; set++) {
-            int seen = 0;
-            int twice = 0;
-            for (int element = 0; element < first.length; element++) {
-                if ((set >> element & 1) == 1) {
-                    int colours = 1 << first[element] | 64 << second[element];
-                    twice |= seen & colours;
-                    seen |= colours;
-                }
+    @Sentence(promise = 22, says = "if it has at most as many elements of each colour as its room")
+    static void commonOfAllRoomsOfFour() {
+        ofAllRoomsOfFour(false);
+    }
+
+    @Sentence(promise = 23, says = "if it has at most as many elements of each colour as its room")
+    static void commonAnewOfAllRoomsOfFour() {
+        ofAllRoomsOfFour(true);
+    }
+
+    /** Two colours in each family, each with a room of 0 to 3. */
+    private static void ofAllRoomsOfFour(boolean isAnew) {
+        int[][] colours = new int[2][4];
+        int[][] rooms = new int[2][2];
+        for (int kinds = 0; kinds < 256; kinds++) {
+            for (int element = 0; element < 4; element++) {
+                colours[0][element] = kinds >> element & 1;
+                colours[1][element] = kinds >> 4 + element & 1;
             }
-            greatest = twice == 0 ? Math.max(greatest, Integer.bitCount(set)) : greatest;
+            for (int sizes = 0; sizes < 256; sizes++) {
+                for (int cell = 0; cell < 4; cell++) {
+                    rooms[cell / 2][cell % 2] = sizes >> 2 * cell & 3;
+                }
+                commonIs(isAnew, coloured(colours, rooms), greatestCommon(colours, rooms));
+            }
+        }
+    }
+
+    private static Submodulary coloured(int[][] colours, int[][] rooms) {
+        Submodulary x = coloured(colours[0], colours[1]);
+        for (int colour = 0; colour < rooms[0].length; colour++) {
+            x.room(0, colour, rooms[0][colour]);
+            x.room(1, colour, rooms[1][colour]);
+        }
+        return x;
+    }
+
+    private static int greatestCommon(int[][] colours, int[][] rooms) {
+        int greatest = 0;
+        for (int set = 0; set < 1 << colours[0].length; set++) {
+            if (isFair(set, colours[0], rooms[0]) && isFair(set, colours[1], rooms[1])) {
+                greatest = Math.max(greatest, Integer.bitCount(set));
+            }
         }
         return greatest;
+    }
+
+    private static boolean isFair(int set, int[] colours, int[] rooms) {
+        int[] left = rooms.clone();
+        for (int element = 0; element < colours.length; element++) {
+            if ((set >> element & 1) == 1 && --left[colours[element]] < 0) {
+                return false;
+            }
+        }
+        return true;
     }
 
     @Sentence(promise = 22, says = "A set that is fair in both families, as they are told now, is common.")
@@ -508,6 +587,24 @@ final class GreedBoundaries {
         Due.due("shareAnew(3, 0)", Due.told().shareAnew(3, 0), -2 * 20 - 1 - 18 + 2 * 0);
     }
 
+    @Sentence(promise = 24, says = "Functions are numbered from 0, at most 8")
+    static void shareOfEachForItself() {
+        sharesOfEachForItself(false);
+    }
+
+    @Sentence(promise = 25, says = "Functions are numbered from 0, at most 8")
+    static void shareAnewOfEachForItself() {
+        sharesOfEachForItself(true);
+    }
+
+    private static void sharesOfEachForItself(boolean isAnew) {
+        Submodulary x = Due.between(1, -2, 3, -4, 5, -6);
+        Due.due("of 0 in function 0", share(isAnew, x, 0, 0), -20 * 720);
+        Due.due("of 5 in function 0", share(isAnew, x, 0, 5), 20 * 720);
+        Due.due("of 0 in function 2", share(isAnew, x, 2, 0), 720);
+        Due.due("of 5 in function 2", share(isAnew, x, 2, 5), -6 * 720);
+    }
+
     @Sentence(promise = 24, says = "Throws `IndexOutOfBoundsException` as told, of both")
     static void shareFunctionBelowFirstRefused() {
         Due.refused(Due.OUTSIDE, x -> x.share(-1, 0));
@@ -534,9 +631,21 @@ final class GreedBoundaries {
         Due.refused(Due::full, Due.OUTSIDE, x -> share(isAnew, x, 8, 0));
     }
 
+    @Sentence(promise = 24, says = "to tell their number, also the same one, makes all functions over")
+    static void shareOfFunctionsThatWereRefused() {
+        Due.refused(Due::over, Due.OUTSIDE, x -> x.share(0, 0));
+        Due.refused(Due::over, Due.OUTSIDE, x -> x.share(3, 0));
+    }
+
     @Sentence(promise = 24, says = "Throws `IndexOutOfBoundsException` as told, of both")
     static void shareFunctionFarRefused() {
         Due.farRefused(Due.OUTSIDE, 0, 3, (x, far) -> x.share(far, 0));
+    }
+
+    @Sentence(promise = 25, says = "to tell their number, also the same one, makes all functions over")
+    static void shareAnewOfFunctionsThatWereRefused() {
+        Due.refused(Due::over, Due.OUTSIDE, x -> x.shareAnew(0, 0));
+        Due.refused(Due::over, Due.OUTSIDE, x -> x.shareAnew(3, 0));
     }
 
     @Sentence(promise = 25, says = "Throws `IndexOutOfBoundsException` as told, of both")

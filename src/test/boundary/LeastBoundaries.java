@@ -124,6 +124,12 @@ final class LeastBoundaries {
         Due.refused(Due::full, Due.OUTSIDE, x -> x.least(8));
     }
 
+    @Sentence(promise = 15, says = "to tell their number, also the same one, makes all functions over")
+    static void leastOfFunctionsThatWereRefused() {
+        Due.refused(Due::over, Due.OUTSIDE, x -> x.least(0));
+        Due.refused(Due::over, Due.OUTSIDE, x -> x.least(3));
+    }
+
     @Sentence(promise = 15, says = "Throws `IndexOutOfBoundsException` as told")
     static void leastFunctionFarRefused() {
         Due.farRefused(Due.OUTSIDE, 0, 3, Submodulary::least);
@@ -138,6 +144,13 @@ final class LeastBoundaries {
     static void leastOfFewerElementsThanBefore() {
         Due.due("least(1)", fewer().least(1), -2);
         Due.due("least(0)", fewer().least(0), 0);
+    }
+
+    @Sentence(promise = 15, says = "Functions are numbered from 0, at most 8")
+    static void leastOfEachForItself() {
+        Due.due("least(0)", Due.between(1, 1, 1, 1, 1, 1).least(0), -100);
+        Due.due("least(2) of more", Due.between(1, 1, 1, 1, 1, 1).least(2), 0);
+        Due.due("least(2) of less", Due.between(-1, 1, 1, 1, 1, -1).least(2), -2);
     }
 
     // ---- promises 16 and 17: leastSet, leastSetAnew
@@ -238,6 +251,62 @@ final class LeastBoundaries {
         leastSetsAre(isAnew, pairs(4 + gains[0], -4, -4, 4 + gains[1], gains[2], 0), 2, least, greatest);
     }
 
+    @Sentence(promise = 16, says = "the least and the greatest such set")
+    static void leastSetOfSetsInOneAnother() {
+        setsInOneAnother(false);
+    }
+
+    @Sentence(promise = 17, says = "the least and the greatest such set")
+    static void leastSetAnewOfSetsInOneAnother() {
+        setsInOneAnother(true);
+    }
+
+    /** With each element in each place: the empty set, two elements and all three are least; or two and all; or two. */
+    private static void setsInOneAnother(boolean isAnew) {
+        for (int one = 0; one < 3; one++) {
+            for (int two = 0; two < 3; two++) {
+                if (one != two) {
+                    int both = 1 << one | 1 << two;
+                    leastSetsAre(isAnew, knotted(one, two, -5, 5), 2, 0, 7);
+                    leastSetsAre(isAnew, knotted(one, two, -6, 5), 2, both, 7);
+                    leastSetsAre(isAnew, knotted(one, two, -6, 6), 2, both, both);
+                    leastSetsAre(isAnew, knotted(one, two, -5, 6), 2, 0, both);
+                    leastSetsAre(isAnew, knotted(one, two, -5, 4), 2, 7, 7);
+                    leastSetsAre(isAnew, knotted(one, two, -4, 4), 2, 0, 7);
+                }
+            }
+        }
+    }
+
+    /** Function 2: weights of the first and the third, and edges of 5 from the first to both others. */
+    private static Submodulary knotted(int one, int two, int first, int third) {
+        int[] weights = new int[3];
+        weights[one] = first;
+        weights[3 - one - two] = third;
+        Submodulary x = Due.weighed(weights);
+        x.edge(one, two, 5);
+        x.edge(one, 3 - one - two, 5);
+        x.make(Submodulary.CUT);
+        x.sum(0, 1);
+        return x;
+    }
+
+    @Sentence(promise = 16, says = "Functions are numbered from 0, at most 8")
+    static void leastSetOfEachForItself() {
+        eachForItself(false);
+    }
+
+    @Sentence(promise = 17, says = "Functions are numbered from 0, at most 8")
+    static void leastSetAnewOfEachForItself() {
+        eachForItself(true);
+    }
+
+    private static void eachForItself(boolean isAnew) {
+        leastSetsAre(isAnew, Due.between(1, 1, 1, 1, 1, 1), 0, 31, 31);
+        leastSetsAre(isAnew, Due.between(1, 1, 1, 1, 1, 1), 2, 0, 0);
+        leastSetsAre(isAnew, Due.between(-1, 1, 0, 1, 1, -1), 2, 33, 37);
+    }
+
     @Sentence(promise = 16, says = "There are up to 6 elements, from 0, as many as were told last")
     static void leastSetOfFewerElementsThanBefore() {
         leastSetsAre(false, fewer(), 1, 2, 2);
@@ -293,6 +362,12 @@ final class LeastBoundaries {
         Due.refused(Due::full, Due.OUTSIDE, x -> x.leastSet(8, true));
     }
 
+    @Sentence(promise = 16, says = "to tell their number, also the same one, makes all functions over")
+    static void leastSetOfFunctionsThatWereRefused() {
+        Due.refused(Due::over, Due.OUTSIDE, x -> x.leastSet(0, true));
+        Due.refused(Due::over, Due.OUTSIDE, x -> x.leastSet(3, true));
+    }
+
     @Sentence(promise = 16, says = "Throws `IndexOutOfBoundsException` as told")
     static void leastSetFunctionFarRefused() {
         Due.farRefused(Due.OUTSIDE, 0, 3, (x, far) -> x.leastSet(far, false));
@@ -309,6 +384,12 @@ final class LeastBoundaries {
         functionRefused(true, 4);
         Due.refused(Due::bare, Due.OUTSIDE, x -> x.leastSetAnew(0, false));
         Due.refused(Due::full, Due.OUTSIDE, x -> x.leastSetAnew(8, true));
+    }
+
+    @Sentence(promise = 17, says = "to tell their number, also the same one, makes all functions over")
+    static void leastSetAnewOfFunctionsThatWereRefused() {
+        Due.refused(Due::over, Due.OUTSIDE, x -> x.leastSetAnew(0, true));
+        Due.refused(Due::over, Due.OUTSIDE, x -> x.leastSetAnew(3, true));
     }
 
     @Sentence(promise = 17, says = "Throws `IndexOutOfBoundsException` as told")
@@ -523,6 +604,12 @@ final class LeastBoundaries {
         Submodulary x = Due.bare();
         x.order(2);
         return x;
+    }
+
+    @Sentence(promise = 19, says = "to tell their number, also the same one, makes all functions over")
+    static void cornerOfFunctionsThatWereRefused() {
+        Due.refused(Due::over, Due.OUTSIDE, x -> x.corner(0, 2));
+        Due.refused(Due::over, Due.OUTSIDE, x -> x.corner(3, 2));
     }
 
     @Sentence(promise = 19, says = "Throws `IndexOutOfBoundsException` as told, of both")
