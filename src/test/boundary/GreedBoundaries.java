@@ -364,6 +364,30 @@ final class GreedBoundaries {
     }
 
     @Sentence(promise = 22, says = "Returns how many elements the greatest common set has, found by augmenting paths.")
+    static void commonByPathsBesideRoom() {
+        byPathsBesideRoom(false);
+    }
+
+    @Sentence(promise = 23, says = "Returns the same, found by all sets.")
+    static void commonAnewByPathsBesideRoom() {
+        byPathsBesideRoom(true);
+    }
+
+    /** An element that begins a path can be reached by another path, too: its colour has more room than one. */
+    private static void byPathsBesideRoom(boolean isAnew) {
+        int[][] first = {{2, 1, 2, 1, 1, 2}, {1, 0, 0, 0, 1, 1}, {0, 0, 0, 1, 1, 1}, {0, 1, 1, 0, 1, 0}};
+        int[][] second = {{1, 2, 2, 2, 2, 0}, {0, 2, 2, 0, 0, 1}, {0, 1, 2, 0, 1, 1}, {0, 0, 1, 0, 0, 2}};
+        int[][] firstRooms = {{0, 3, 1}, {3, 1, 1}, {2, 2, 1}, {2, 1, 1}};
+        int[][] secondRooms = {{1, 0, 2}, {1, 3, 1}, {1, 2, 2}, {2, 2, 0}};
+        int[] want = {3, 3, 4, 3};
+        for (int each = 0; each < want.length; each++) {
+            int[][] colours = {first[each], second[each]};
+            int[][] rooms = {firstRooms[each], secondRooms[each]};
+            commonIs(isAnew, coloured(colours, rooms), want[each]);
+        }
+    }
+
+    @Sentence(promise = 22, says = "Returns how many elements the greatest common set has, found by augmenting paths.")
     static void commonOfAllColoursOfFour() {
         ofAllColoursOfFour(false);
     }

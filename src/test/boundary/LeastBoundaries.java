@@ -35,6 +35,24 @@ final class LeastBoundaries {
         return x;
     }
 
+    /** Function 2: weights, and between each two elements an edge of the same weight. */
+    private static Submodulary woven(int edge, int... weights) {
+        Submodulary x = Due.weighed(weights);
+        for (int one = 0; one < weights.length; one++) {
+            for (int two = 0; two < one; two++) {
+                x.edge(one, two, edge);
+            }
+        }
+        x.make(Submodulary.CUT);
+        x.sum(0, 1);
+        return x;
+    }
+
+    /** All elements together alone are least, -2; taken in turn, none but the last lessens the value. */
+    private static Submodulary lateFall(boolean isAdding) {
+        return isAdding ? woven(4, -19, -11, -3, 5, 13, 13) : woven(1, -5, -3, -1, 1, 3, 3);
+    }
+
     /** Function 1 misses the law by one: -1 and 0 alone, but 0 of both together. */
     private static Submodulary lawless() {
         Submodulary x = Due.weighed(-1, 1);
@@ -81,6 +99,12 @@ final class LeastBoundaries {
     @Sentence(promise = 15, says = "Returns the least value.")
     static void leastWhereAllTogetherAreAlike() {
         Due.due("least", ring(-3, -2, 1, -1, 3, 2).least(2), 0);
+    }
+
+    @Sentence(promise = 15, says = "Returns the least value.")
+    static void leastWhereTheLastElementAloneLessens() {
+        Due.due("least, the others alike", lateFall(false).least(2), -2);
+        Due.due("least, the others more", lateFall(true).least(2), -2);
     }
 
     @Sentence(promise = 15, says = "Returns the least value.")
@@ -209,6 +233,45 @@ final class LeastBoundaries {
         leastSetsAre(isAnew, ring(5, -5, 5, -5, 5, -5), 2, 0, 63);
         leastSetsAre(isAnew, ring(5, 5, 5, -5, -5, -5), 2, 0, 63);
         leastSetsAre(isAnew, ring(-5, -5, -5, 5, 5, 5), 2, 0, 63);
+    }
+
+    @Sentence(promise = 16, says = "Returns the least, or the greatest, set that has the least value.")
+    static void leastSetWhereTheLastElementAloneLessens() {
+        lastElementAloneLessens(false);
+    }
+
+    @Sentence(promise = 17, says = "Returns the same, found by all sets.")
+    static void leastSetAnewWhereTheLastElementAloneLessens() {
+        lastElementAloneLessens(true);
+    }
+
+    private static void lastElementAloneLessens(boolean isAnew) {
+        leastSetsAre(isAnew, lateFall(false), 2, 63, 63);
+        leastSetsAre(isAnew, lateFall(true), 2, 63, 63);
+    }
+
+    @Sentence(promise = 16, says = "the least and the greatest such set")
+    static void leastSetOfTwoAlikeBehindThreeMore() {
+        twoAlikeBehindThreeMore(false);
+    }
+
+    @Sentence(promise = 17, says = "the least and the greatest such set")
+    static void leastSetAnewOfTwoAlikeBehindThreeMore() {
+        twoAlikeBehindThreeMore(true);
+    }
+
+    /** The edges of 3 and 4 to the others weigh 12 each, as much as both elements take away: the two are as good as none. */
+    private static void twoAlikeBehindThreeMore(boolean isAnew) {
+        int[][] edges = {{}, {0}, {5, 2}, {6, 0, 3}, {4, 2, 4, 6}, {6, 5, 7, 3, 2}};
+        Submodulary x = Due.weighed(19, 0, 6, -12, -12, 1);
+        for (int one = 0; one < 6; one++) {
+            for (int two = 0; two < one; two++) {
+                x.edge(one, two, edges[one][two]);
+            }
+        }
+        x.make(Submodulary.CUT);
+        x.sum(0, 1);
+        leastSetsAre(isAnew, x, 2, 0, 24);
     }
 
     @Sentence(promise = 16, says = "the least and the greatest such set")

@@ -10,11 +10,11 @@ import java.util.List;
 
 /**
  * Runs all tests under src/test/boundary. Each names its promise and words of the document; the words have to stand
- * there, and each line of a promise that tells a range, an answer or an exception has to be named by a test.
+ * there, and each sentence of the terms and of the promises has to be named by a test.
  */
 public final class BoundaryTest {
     private static final Class<?>[] TESTS = {
-        ToldBoundaries.class, FunctionBoundaries.class, LeastBoundaries.class, GreedBoundaries.class,
+        ToldBoundaries.class, FunctionBoundaries.class, LeastBoundaries.class, GreedBoundaries.class, PlainCases.class,
     };
     private static final Path DOCUMENT = Path.of("..", "shared", "DOC.md");
     private static final int PROMISES = 25;
@@ -85,20 +85,36 @@ public final class BoundaryTest {
         }
     }
 
-    private static void everyLineIsNamed(List<Method> tests, String[] sections) {
+    private static void everySentenceIsNamed(List<Method> tests, String[] sections) {
+        for (String sentence : sentences(sections[0].substring(Math.max(0, sections[0].indexOf("## Terms"))))) {
+            // a line of the terms without a full stop is a heading
+            if (sentence.endsWith(".") && tests.stream().noneMatch(test -> sentence.contains(says(test)))) {
+                fail("no test names: " + sentence);
+            }
+        }
         for (int promise = 1; promise <= PROMISES; promise++) {
-            for (String line : sections[promise].split("\n")) {
-                boolean isToBeNamed = line.startsWith("- ") || line.startsWith("Throws ") || line.startsWith("Returns ");
-                if (isToBeNamed && !isNamed(tests, promise, line)) {
-                    fail("no test of promise " + promise + " names: " + line);
+            for (String sentence : sentences(sections[promise])) {
+                if (!isNamed(tests, promise, sentence)) {
+                    fail("no test of promise " + promise + " names: " + sentence);
                 }
             }
         }
     }
 
-    private static boolean isNamed(List<Method> tests, int promise, String line) {
+    private static List<String> sentences(String section) {
+        List<String> found = new ArrayList<>();
+        for (String line : section.split("\n")) {
+            boolean isHeading = line.isBlank() || line.startsWith("#") || line.startsWith("Ahead of the calls");
+            if (!isHeading) {
+                found.addAll(List.of(line.split("(?<=\\.) ")));
+            }
+        }
+        return found;
+    }
+
+    private static boolean isNamed(List<Method> tests, int promise, String sentence) {
         for (Method test : tests) {
-            if (promise(test) == promise && line.contains(says(test))) {
+            if (promise(test) == promise && sentence.contains(says(test))) {
                 return true;
             }
         }
@@ -124,7 +140,7 @@ public final class BoundaryTest {
         if (Files.isReadable(DOCUMENT)) {
             String[] sections = sections();
             everyTestNamesWordsOfTheDocument(tests, sections);
-            everyLineIsNamed(tests, sections);
+            everySentenceIsNamed(tests, sections);
         } else {
             System.out.println("the document is not here: the words of it that tests name are not looked for");
         }
