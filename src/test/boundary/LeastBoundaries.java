@@ -48,6 +48,19 @@ final class LeastBoundaries {
         return x;
     }
 
+    /** Function 2: weights, and the weights of the edges of each element to those below it. */
+    private static Submodulary edged(int[][] edges, int... weights) {
+        Submodulary x = Due.weighed(weights);
+        for (int one = 0; one < weights.length; one++) {
+            for (int two = 0; two < one; two++) {
+                x.edge(one, two, edges[one][two]);
+            }
+        }
+        x.make(Submodulary.CUT);
+        x.sum(0, 1);
+        return x;
+    }
+
     /** All elements together alone are least, -2; taken in turn, none but the last lessens the value. */
     private static Submodulary lateFall(boolean isAdding) {
         return isAdding ? woven(4, -19, -11, -3, 5, 13, 13) : woven(1, -5, -3, -1, 1, 3, 3);
@@ -263,15 +276,22 @@ final class LeastBoundaries {
     /** The edges of 3 and 4 to the others weigh 12 each, as much as both elements take away: the two are as good as none. */
     private static void twoAlikeBehindThreeMore(boolean isAnew) {
         int[][] edges = {{}, {0}, {5, 2}, {6, 0, 3}, {4, 2, 4, 6}, {6, 5, 7, 3, 2}};
-        Submodulary x = Due.weighed(19, 0, 6, -12, -12, 1);
-        for (int one = 0; one < 6; one++) {
-            for (int two = 0; two < one; two++) {
-                x.edge(one, two, edges[one][two]);
-            }
-        }
-        x.make(Submodulary.CUT);
-        x.sum(0, 1);
-        leastSetsAre(isAnew, x, 2, 0, 24);
+        leastSetsAre(isAnew, edged(edges, 19, 0, 6, -12, -12, 1), 2, 0, 24);
+    }
+
+    @Sentence(promise = 16, says = "the least and the greatest such set")
+    static void leastSetOfTwoWhereAllAreAlike() {
+        twoWhereAllAreAlike(false);
+    }
+
+    @Sentence(promise = 17, says = "the least and the greatest such set")
+    static void leastSetAnewOfTwoWhereAllAreAlike() {
+        twoWhereAllAreAlike(true);
+    }
+
+    /** 0 and 2 have -1, as have all four; with 1 or 3 alone beside them it is more. */
+    private static void twoWhereAllAreAlike(boolean isAnew) {
+        leastSetsAre(isAnew, edged(new int[][] {{}, {0}, {2, 2}, {1, 2, 0}}, -3, 3, -1, 0), 2, 5, 15);
     }
 
     @Sentence(promise = 16, says = "the least and the greatest such set")
